@@ -17,6 +17,11 @@ final class Checks {
         if (wrong <= 40) System.out.println(title + ": " + what + " answered " + got + ", due is " + due);
     }
 
+    void same(String what, String got, String due) {
+        if (!got.equals(due)) System.out.println(title + ": " + what + " is '" + got + "', due is '" + due + "'");
+        same(what, got.equals(due) ? 1 : 0, 1);
+    }
+
     void finding(String what, DrawerGloves x, int got, int due) {
         same(what, got, DrawerGloves.FINDING);
         same(what + ", finding()", x.finding(), due);
