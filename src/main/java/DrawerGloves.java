@@ -27,7 +27,7 @@ public final class DrawerGloves {
     private static final int WHATS = 7, COUNTS = 11;
 
     private final Rows rows;
-    private final Texts texts;
+    private final Rows texts;
     private final Reading reading;
     private final Drawer chest;
     private final Deeds[] kept;
@@ -41,8 +41,8 @@ public final class DrawerGloves {
     private int lastAsked;
 
     public DrawerGloves() {
-        rows = new Rows();
-        texts = new Texts();
+        rows = new Rows(ROWS, ROW_PLACES, 0);
+        texts = new Rows(TEXTS, TEXT_PLACES, BLANK);
         reading = new Reading();
         chest = new Drawer();
         kept = new Deeds[KEPT];
@@ -53,7 +53,7 @@ public final class DrawerGloves {
         makings = new Makings();
         calendar = new Calendar();
         guess = new Guess();
-        rivals = new Rivals(makings);
+        rivals = new Rivals();
         chances = new Chances();
         found = new int[FINDINGS + 1];
         lastFound = 0;
@@ -119,7 +119,7 @@ public final class DrawerGloves {
         if (refused != FINE) return refused;
         if (!texts.holds(t, i)) return finds(BEYOND);
         int was = texts.read(t, i);
-        texts.write(t, i, v);
+        texts.write(t, i, (byte) v);
         return was + MORE_PUT;
     }
 
@@ -239,13 +239,13 @@ public final class DrawerGloves {
     public int missed() {
         if (chest.size == 0) return STATE;
         makings.weigh(chest);
-        return choose(chest.setOf(INSIDE));
+        return greatestChange(chest.setOf(INSIDE));
     }
 
     public int wished() {
         if (chest.size == 0) return STATE;
         makings.weigh(chest);
-        return choose(chest.setOf(LOST) | chest.setOf(OUT));
+        return greatestChange(chest.setOf(LOST) | chest.setOf(OUT));
     }
 
     // ---- 4 days, room
@@ -306,7 +306,7 @@ public final class DrawerGloves {
         if (n < 0 || n > TURNS) return BAD;
         if (chest.size == 0) return STATE;
         makings.weigh(chest);
-        return rivals.leadAfter(chest.setOf(INSIDE), n) + MORE_LED;
+        return rivals.leadAfter(makings, chest.setOf(INSIDE), n) + MORE_LED;
     }
 
     // ---- 7 chances, lots
@@ -427,7 +427,8 @@ public final class DrawerGloves {
         return guess.isWellTold(chest, i, rows, r) ? FINE : finds(UNLIKE);
     }
 
-    private int choose(int set) {
+    /** The first of a set by which, put in or taken out, the drawer gets more or less GOOD by most. */
+    private int greatestChange(int set) {
         int inside = chest.setOf(INSIDE);
         int chosen = NONE;
         int most = 0;
@@ -456,16 +457,24 @@ public final class DrawerGloves {
         return p >= 0 && p <= CHANCES;
     }
 
+    /** ROWS, or TEXTS: what they are filled with at first and how many places they have at most differs. */
     static final class Rows {
-        private final int[][] places = new int[ROWS][ROW_PLACES];
-        private final int[] sizes = new int[ROWS];
+        private final int[][] places;
+        private final int[] sizes;
+        private final int mostPlaces;
+        private final int filler;
 
-        Rows() {
-            for (int r = 0; r < ROWS; r++) sizes[r] = MISSING;
+        Rows(int number, int mostPlaces, int filler) {
+            int howMany = Math.max(0, number);
+            this.mostPlaces = Math.max(0, mostPlaces);
+            this.filler = filler;
+            places = new int[howMany][this.mostPlaces];
+            sizes = new int[howMany];
+            for (int r = 0; r < howMany; r++) sizes[r] = MISSING;
         }
 
         boolean isNumber(int r) {
-            return r >= 0 && r < ROWS;
+            return r >= 0 && r < sizes.length;
         }
 
         int sizeOf(int r) {
@@ -486,9 +495,9 @@ public final class DrawerGloves {
         }
 
         void begin(int r, int n) {
-            if (!isNumber(r) || n < 0 || n > ROW_PLACES) return;
+            if (!isNumber(r) || n < 0 || n > mostPlaces) return;
             sizes[r] = n;
-            for (int i = 0; i < n; i++) places[r][i] = 0;
+            for (int i = 0; i < n; i++) places[r][i] = filler;
         }
 
         void drop(int r) {
@@ -517,85 +526,16 @@ public final class DrawerGloves {
 
         int howManyThere() {
             int there = 0;
-            for (int r = 0; r < ROWS; r++) {
+            for (int r = 0; r < sizes.length; r++) {
                 if (isThere(r)) there++;
             }
             return there;
         }
 
         long digestOn(long h) {
-            for (int r = 0; r < ROWS; r++) {
+            for (int r = 0; r < sizes.length; r++) {
                 h = 31 * h + sizes[r];
                 for (int i = 0; i < sizes[r]; i++) h = 31 * h + read(r, i);
-            }
-            return h;
-        }
-    }
-
-    static final class Texts {
-        private final byte[][] places = new byte[TEXTS][TEXT_PLACES];
-        private final int[] sizes = new int[TEXTS];
-
-        Texts() {
-            for (int t = 0; t < TEXTS; t++) sizes[t] = MISSING;
-        }
-
-        boolean isNumber(int t) {
-            return t >= 0 && t < TEXTS;
-        }
-
-        int sizeOf(int t) {
-            return isNumber(t) ? sizes[t] : MISSING;
-        }
-
-        boolean isThere(int t) {
-            return sizeOf(t) != MISSING;
-        }
-
-        boolean holds(int t, int i) {
-            return i >= 0 && i < sizeOf(t);
-        }
-
-        void begin(int t, int n) {
-            if (!isNumber(t) || n < 0 || n > TEXT_PLACES) return;
-            sizes[t] = n;
-            for (int i = 0; i < n; i++) places[t][i] = BLANK;
-        }
-
-        int read(int t, int i) {
-            return holds(t, i) ? places[t][i] : 0;
-        }
-
-        void write(int t, int i, int v) {
-            if (holds(t, i)) places[t][i] = (byte) v;
-        }
-
-        int pastBlanks(int t, int place) {
-            int end = sizeOf(t);
-            int next = place;
-            while (next < end && read(t, next) == BLANK) next++;
-            return next;
-        }
-
-        /** MISSING, if there is no such figure at this place. */
-        int figure(int t, int place, int least, int most) {
-            if (!holds(t, place)) return MISSING;
-            int value = read(t, place) - '0';
-            return value >= least && value <= most ? value : MISSING;
-        }
-
-        int howManyThere() {
-            int there = 0;
-            for (int t = 0; t < TEXTS; t++) {
-                if (isThere(t)) there++;
-            }
-            return there;
-        }
-
-        long digestOn(long h) {
-            for (int t = 0; t < TEXTS; t++) {
-                h = 31 * h + sizes[t];
-                for (int i = 0; i < sizes[t]; i++) h = 31 * h + read(t, i);
             }
             return h;
         }
@@ -612,33 +552,47 @@ public final class DrawerGloves {
         int size;
         int room;
 
-        int faultOf(Texts texts, int t) {
+        int faultOf(Rows texts, int t) {
             size = 0;
             int end = texts.sizeOf(t);
-            int place = texts.pastBlanks(t, 0);
+            int place = pastBlanks(texts, t, 0);
             if (place >= end || texts.read(t, place) != 'd') return place;
-            room = texts.figure(t, place + 1, 1, GLOVES);
+            room = figure(texts, t, place + 1, 1, GLOVES);
             if (room == MISSING) return place + 1;
-            place = texts.pastBlanks(t, place + 2);
+            place = pastBlanks(texts, t, place + 2);
             while (size < GLOVES && place < end) {
                 int wrong = faultOfGlove(texts, t, place);
                 if (wrong != NONE) return wrong;
-                place = texts.pastBlanks(t, place + ITEM);
+                place = pastBlanks(texts, t, place + ITEM);
                 size++;
             }
             return place < end || size == 0 ? place : NONE;
         }
 
-        private int faultOfGlove(Texts texts, int t, int place) {
+        private int faultOfGlove(Rows texts, int t, int place) {
             if (size < 0 || size >= GLOVES) return place;
             kind[size] = kindOf(texts.read(t, place));
             if (kind[size] == MISSING) return place;
-            sort[size] = texts.figure(t, place + 1, 0, SORTS - 1);
+            sort[size] = figure(texts, t, place + 1, 0, SORTS - 1);
             if (sort[size] == MISSING) return place + 1;
-            hand[size] = texts.figure(t, place + 2, 0, HANDS - 1);
+            hand[size] = figure(texts, t, place + 2, 0, HANDS - 1);
             if (hand[size] == MISSING) return place + 2;
-            warm[size] = texts.figure(t, place + 3, 0, MOST_WARM);
+            warm[size] = figure(texts, t, place + 3, 0, MOST_WARM);
             return warm[size] == MISSING ? place + 3 : NONE;
+        }
+
+        private static int pastBlanks(Rows texts, int t, int place) {
+            int end = texts.sizeOf(t);
+            int next = place;
+            while (next < end && texts.read(t, next) == BLANK) next++;
+            return next;
+        }
+
+        /** MISSING, if there is no such figure at this place. */
+        private static int figure(Rows texts, int t, int place, int least, int most) {
+            if (!texts.holds(t, place)) return MISSING;
+            int value = texts.read(t, place) - '0';
+            return value >= least && value <= most ? value : MISSING;
         }
 
         private static int kindOf(int letter) {
@@ -998,7 +952,7 @@ public final class DrawerGloves {
             gather(chest);
             if (n < 0 || n > DAYS || (n > 0 && size == 0)) return NONE;
             best = NONE;
-            search(0, n, 0);
+            search(this, 0, n, 0);
             rows.begin(r, n);
             for (int day = 0; day < n; day++) rows.write(r, day, bestWay[day]);
             return best;
@@ -1021,22 +975,22 @@ public final class DrawerGloves {
             }
         }
 
-        private void search(int day, int n, int sum) {
+        private static void search(Calendar all, int day, int n, int sum) {
             // WEAR never makes a PAIR more GOOD: no day to come is above the dearest PAIR of now
-            if (sum + (n - day) * dearest <= best) return;
+            if (sum + (n - day) * all.dearest <= all.best) return;
             if (day >= n || day >= DAYS) {
-                best = sum;
-                for (int d = 0; d < DAYS; d++) bestWay[d] = way[d];
+                all.best = sum;
+                for (int d = 0; d < DAYS; d++) all.bestWay[d] = all.way[d];
                 return;
             }
-            for (int c = 0; c < size; c++) {
-                Glove one = worn.gloves[codes[c] / 10];
-                Glove other = worn.gloves[codes[c] % 10];
+            for (int c = 0; c < all.size; c++) {
+                Glove one = all.worn.gloves[all.codes[c] / 10];
+                Glove other = all.worn.gloves[all.codes[c] % 10];
                 int worth = one.goodWith(other);
-                way[day] = codes[c];
+                all.way[day] = all.codes[c];
                 one.wear++;
                 other.wear++;
-                search(day + 1, n, sum + worth);
+                search(all, day + 1, n, sum + worth);
                 one.wear--;
                 other.wear--;
             }
@@ -1152,32 +1106,30 @@ public final class DrawerGloves {
     static final class Rivals {
         private static final int WAYS = 6561, UNKNOWN = 1000000;
 
-        private final Makings makings;
         private final int[] known = new int[WAYS];
         private final int[] inThrees = new int[SETS];
 
-        Rivals(Makings makings) {
-            this.makings = makings;
+        Rivals() {
             for (int set = 1; set < SETS; set++) inThrees[set] = 3 * inThrees[set / 2] + set % 2;
         }
 
-        int leadAfter(int inside, int turns) {
+        int leadAfter(Makings makings, int inside, int turns) {
             for (int way = 0; way < WAYS; way++) known[way] = UNKNOWN;
-            return lead(0, 0, inside, turns);
+            return lead(this, makings, 0, 0, inside, turns);
         }
 
-        private int lead(int mine, int others, int free, int turns) {
+        private static int lead(Rivals all, Makings makings, int mine, int others, int free, int turns) {
             if (turns <= 0 || free == 0) return makings.best[mine] - makings.best[others];
-            int way = inThrees[mine] + 2 * inThrees[others];
-            if (known[way] != UNKNOWN) return known[way];
+            int way = all.inThrees[mine] + 2 * all.inThrees[others];
+            if (all.known[way] != UNKNOWN) return all.known[way];
             int most = -UNKNOWN;
             for (int i = 0; i < GLOVES; i++) {
                 int one = 1 << i;
                 if ((free & one) != 0) {
-                    most = Math.max(most, -lead(others, mine | one, free ^ one, turns - 1));
+                    most = Math.max(most, -lead(all, makings, others, mine | one, free ^ one, turns - 1));
                 }
             }
-            known[way] = most;
+            all.known[way] = most;
             return most;
         }
     }
