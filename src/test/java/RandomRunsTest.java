@@ -1,16 +1,21 @@
 /**
  * Runs of calls from fixed seeds on the class and on Slow: each answer, and all that is told after it,
- * has to be the same. Places and numbers are often at an edge or beyond it.
+ * has to be the same. Places and numbers are often at an edge or beyond it. No object is used for more than
+ * 512 calls: the document leaves free what later ones answer.
  */
 public final class RandomRunsTest {
     private static final int[] WILD = {-1, 0, 1, 2, 5, 8, 39, 40, 41, 59, 60, 61, 255, 256, 1000,
         -9, Integer.MAX_VALUE, Integer.MIN_VALUE, Integer.MAX_VALUE - 1};
+
+    private static final int RUNS = 1000, MOST_STEPS = 60;
+    private static final int MOST_CALLS = 512, CALLS_OF_A_STEP = 90, CALLS_AT_LAST = 7;
 
     private final Checks checks;
     private final int run;
     private final DrawerGloves x = new DrawerGloves();
     private final Slow y = new Slow();
     private long state;
+    private int calls;
 
     private RandomRunsTest(Checks checks, int run) {
         this.checks = checks;
@@ -21,7 +26,7 @@ public final class RandomRunsTest {
 
     public static void main(String[] args) {
         Checks checks = new Checks("RandomRunsTest");
-        for (int run = 0; run < 700 && checks.wrong() == 0; run++) new RandomRunsTest(checks, run).go();
+        for (int run = 0; run < RUNS && checks.wrong() == 0; run++) new RandomRunsTest(checks, run).go();
         checks.end();
     }
 
@@ -46,26 +51,36 @@ public final class RandomRunsTest {
     }
 
     private int gloveNumber() {
-        return number(Math.max(1, x.count(0)));
+        return number(Math.max(1, size()));
     }
 
     private int set() {
-        return number(1 << x.count(0));
+        return number(1 << size());
+    }
+
+    private int size() {
+        calls++;
+        return x.count(0);
+    }
+
+    private void sameAnswer(String call, long got, long due) {
+        calls++;
+        checks.same("run " + run + " " + call, got, due);
     }
 
     private void same(String call, long got, long due) {
-        checks.same("run " + run + " " + call, got, due);
+        sameAnswer(call, got, due);
+        calls += 5;
         checks.same("run " + run + " asked() after " + call, x.asked(), y.asked());
         checks.same("run " + run + " upper() after " + call, x.upper(), y.upper());
         checks.same("run " + run + " lower() after " + call, x.lower(), y.lower());
         checks.same("run " + run + " finding() after " + call, x.finding(), y.finding());
-        for (int f = 0; f <= 6; f++) checks.same("findings after " + call, x.findings(f), y.findings(f));
         checks.same("run " + run + " digest() after " + call, x.digest(), y.digest());
     }
 
     private void go() {
         if (below(8) != 0) newDrawer();
-        for (int k = 0; k < 60; k++) {
+        for (int k = 0; k < MOST_STEPS && calls + CALLS_OF_A_STEP + CALLS_AT_LAST <= MOST_CALLS; k++) {
             switch (below(12)) {
                 case 0: rowCall(); break;
                 case 1: textCall(); break;
@@ -81,6 +96,8 @@ public final class RandomRunsTest {
                     break;
             }
         }
+        for (int f = 0; f <= 6; f++) sameAnswer("findings(" + f + ")", x.findings(f), y.findings(f));
+        checks.same("run " + run + " keeps to its calls", calls <= MOST_CALLS ? 0 : calls, 0);
     }
 
     private void newDrawer() {
@@ -88,7 +105,7 @@ public final class RandomRunsTest {
         int t = below(4);
         same("text(" + t + ", " + text.length() + ")", x.text(t, text.length()), y.text(t, text.length()));
         for (int i = 0; i < text.length(); i++) {
-            same("put(" + t + ", " + i + ", " + (int) text.charAt(i) + ")",
+            sameAnswer("put(" + t + ", " + i + ", " + (int) text.charAt(i) + ")",
                 x.put(t, i, text.charAt(i)), y.put(t, i, text.charAt(i)));
         }
         same("fault(" + t + ") of '" + text + "'", x.fault(t), y.fault(t));
@@ -178,6 +195,7 @@ public final class RandomRunsTest {
                 break;
             case 8:
                 int from = number(x.count(2) + 1);
+                calls++;
                 if (below(2) == 0) same("undo(" + from + ")", x.undo(from), y.undo(from));
                 break;
             case 9:
@@ -232,6 +250,7 @@ public final class RandomRunsTest {
         for (int k = 0; k < told; k++) {
             int other = gloveNumber();
             int worth = x.pair(i, other);
+            calls++;
             if (below(5) == 0) worth += below(7) - 3;
             int place = 2 * k;
             same("lay(" + r + ", " + place + ", " + other + ")", x.lay(r, place, other), y.lay(r, place, other));
